@@ -11,6 +11,8 @@ public final class SlipLevels {
     private static final int FIRST_ROOM = 4;
     private static final int MOST_ROOM = 8;
     private static final int RUN_FACTS = 6;
+    /** The fact of a run that it can't tell by itself: how many of its slips stand for their numbers. */
+    private static final int STANDING = 5;
     private static final int LEVEL_FACTS = 3;
     private static final int COUNTS = 7;
     private static final int DIGEST_START = 1493;
@@ -135,7 +137,7 @@ public final class SlipLevels {
         if (what < 0 || what >= RUN_FACTS) {
             throw new IndexOutOfBoundsException("what is not 0 to 5");
         }
-        return what == 5 ? standingIn(level, run) : found.fact(what);
+        return factOf(level, run, found, what);
     }
 
     /** Tells a slip of a run. */
@@ -283,6 +285,10 @@ public final class SlipLevels {
         return total;
     }
 
+    private int factOf(int level, int run, Slips slips, int what) {
+        return what == STANDING ? standingIn(level, run) : slips.fact(what);
+    }
+
     /** How many slips of a run stand for their numbers, tombs too. */
     private int standingIn(int level, int run) {
         int standing = 0;
@@ -338,8 +344,7 @@ public final class SlipLevels {
                 continue;
             }
             for (int what = 0; what < RUN_FACTS; what++) {
-                int fact = what == 5 ? standingIn(level, run) : slips.fact(what);
-                d = d * DIGEST_FACTOR + fact;
+                d = d * DIGEST_FACTOR + factOf(level, run, slips, what);
             }
             d = digestSlips(d, slips);
         }
